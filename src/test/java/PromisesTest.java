@@ -28,7 +28,7 @@ public final class PromisesTest {
         promise = 11; force();
         promise = 12; may();
         promise = 13; barred();
-        promise = 14; hear(); prices(); orderOfReadings();
+        promise = 14; hear(); allFull(); prices(); orderOfReadings();
         promise = 15; reading(); meant(); it();
         promise = 16; open();
         promise = 17; ask();
@@ -40,8 +40,8 @@ public final class PromisesTest {
         promise = 23; ticks(); row(); held();
         promise = 24; quarrel();
         promise = 25; wake();
-        promise = 26; show(); showOrder();
-        promise = 27; habits(); logFull();
+        promise = 26; show(); showOrder(); showThirty(); eightStanding();
+        promise = 27; habits(); daysOfHabits(); logFull();
         promise = 28; keepHabit();
         promise = 29; forget();
         promise = 30; cost();
@@ -280,6 +280,13 @@ public final class PromisesTest {
         due("below 0", faultOf("n0,-1;"), 0);
         due("high byte", faultOf("n0,1;\u00ff"), 5);
         due("the first of two", faultOf("n0,1;n0,9;n0,9;"), 5);
+        HeededWishes x = new HeededWishes();
+        text(x, "n0,1;n0,12;");
+        x.wipe();
+        text(x, "n0,1");
+        due("what was wiped is no end", x.fault(), 0);
+        text(x, ";n0,");
+        due("nor a figure", x.fault(), 5);
     }
 
     private static void force() {
@@ -355,6 +362,22 @@ public final class PromisesTest {
     }
 
     // ---- 14 to 20: wishes
+
+    private static void allFull() {
+        HeededWishes x = speakers();
+        x.word(3, 0, 1, 14);
+        x.word(0, 1, 1, 15);
+        for (int k = 0; k < 10; k++) { x.thing(0, k % 2, k); }
+        x.rule(0, 50);
+        x.rule(1, 20);
+        due("sixteen words", x.hear(0, 100, 2, 0x14), 12);
+        due("unlike", x.open(), 3);
+        due("ask", x.ask(), 0);
+        due("by verb 1", x.answer(0, 1), 3);
+        due("lamps", x.answer(1, 4), 2);
+        due("five of ten", x.done(), 0x155);
+        due("back", x.undo(), 0x155);
+    }
 
     private static void hear() {
         HeededWishes x = speakers();
@@ -434,6 +457,12 @@ public final class PromisesTest {
         for (int i = 0; i < 8; i++) {
             for (int what = 0; what < 4; what++) { due("reading " + i + " " + what, x.reading(i, what), want[i][what]); }
         }
+        HeededWishes z = new HeededWishes();
+        z.go(0, 0);
+        z.word(1, 1, 1, 5);
+        z.word(0, 1, 1, 1);
+        due("a SORT may be the first WORD of all", z.hear(0, 100, 2, 0x15), 1);
+        due("number 0", z.reading(0, 2), 0);
         HeededWishes y = speakers();
         y.rule(0, 50);
         due("twelve at most", y.hear(0, 100, 2, 0x14), 12);
@@ -577,6 +606,9 @@ public final class PromisesTest {
         x.rule(1, 9);
         x.hear(0, 100, 2, 0x14);
         due("by verb three at most", x.ask(), 0);
+        x.answer(0, 1);
+        due("lamp or lock", x.open(), 2);
+        due("two are asked for, too", x.ask(), 1);
         HeededWishes y = new HeededWishes();
         y.go(0, 0);
         y.thing(0, 0, 0);
@@ -1034,6 +1066,39 @@ public final class PromisesTest {
         due("both orders", w.show(), 2);
     }
 
+    private static void showThirty() {
+        HeededWishes x = new HeededWishes();
+        for (int k = 0; k < 3; k++) { x.thing(0, 0, 0); }
+        x.at(1, 0, 1);
+        x.at(2, 1, 1);
+        x.when(1, 1, 2, 1);
+        x.when(0, 1, 2, 0);
+        x.when(0, 1, 0, 2);
+        x.when(0, 2, 0, 1);
+        inForce(x, "x2,1,0,2;");
+        // the first ends at 2 with its thirtieth change; behind the second one it sets thing 2 to 0 in time
+        due("thirty changes by one firing", x.show(), 2);
+    }
+
+    private static void eightStanding() {
+        HeededWishes x = new HeededWishes();
+        for (int k = 0; k < 10; k++) { x.thing(0, 0, 0); }
+        inForce(x, "x9,3,8,3;");
+        for (int k = 0; k < 8; k++) { x.when(k, 1, k + 1, 1); }
+        due("quarrel", x.quarrel(), NONE);
+        due("wake", x.wake(), NONE);
+        due("show", x.show(), NONE);
+        HeededWishes y = new HeededWishes();
+        y.thing(0, 0, 0);
+        y.thing(0, 0, 0);
+        inForce(y, "x1,2,0,3;");
+        for (int k = 0; k < 8; k++) { y.at(k, k / 4, k % 4); }
+        due("8 at an hour", y.show(), 2);
+        inForce(y, "x1,2,9,3;");
+        due("never", y.show(), NONE);
+        due("never, again", y.show(), NONE);
+    }
+
     // ---- 27 to 32: habits, costs
 
     private static void habits() {
@@ -1071,6 +1136,28 @@ public final class PromisesTest {
         x.ticks(24);
         due("a day later", x.habits(14, 2, -1), 0);
         due("one is left", x.habits(14, 1, -1), 4);
+    }
+
+    private static void daysOfHabits() {
+        HeededWishes x = speakers();
+        x.thing(0, 0, 0);
+        wish(x, 0, 2, 0x04);
+        due("hour, thing and state 0", x.habits(1, 1, 0), 0);
+        due("one", x.habits(1, 1, -1), 1);
+        x.ticks(23);
+        due("the last hour of the day", x.habits(1, 1, -1), 1);
+        wish(x, 0, 2, 0x14);
+        x.ticks(1);
+        due("a new day", x.habits(1, 1, -1), 0);
+        due("the day ahead", x.habits(2, 1, 1), 2301);
+        HeededWishes y = speakers();
+        y.thing(0, 0, 0);
+        y.thing(0, 0, 0);
+        y.when(0, 1, 0, 2);
+        wish(y, 0, 2, 0x14);
+        due("the state wished", y.habits(1, 1, 0), 1);
+        due("each thing meant", y.habits(1, 1, 1), 11);
+        due("is told by itself", y.count(7), 2);
     }
 
     private static void logFull() {
