@@ -216,7 +216,7 @@ public final class HeededWishes {
         }
         for (int k = 0; k < n; k++) {
             house.passHour();
-            standing.fireAt(house.hour % HOURS);
+            standing.fireAt(house.hourOfDay());
         }
         return house.hour;
     }
@@ -239,7 +239,7 @@ public final class HeededWishes {
         if (!within(d, 1, TOP_DAYS) || !within(m, 1, d) || i < -1) {
             return BAD;
         }
-        diary.gatherDays(house.hour / HOURS, d);
+        diary.gatherDays(house.day(), d);
         return i == -1 ? diary.howMany(m) : diary.habit(m, i);
     }
 
@@ -291,7 +291,7 @@ public final class HeededWishes {
 
     private boolean mayTurnAll(int rights, int meant) {
         for (int t = 0; t < house.things; t++) {
-            if (isIn(meant, t) && !rules.lets(rights, t, house.hour % HOURS)) {
+            if (isIn(meant, t) && !rules.lets(rights, t, house.hourOfDay())) {
                 return false;
             }
         }
@@ -304,7 +304,7 @@ public final class HeededWishes {
         standing.clearRow();
         for (int t = 0; t < THINGS; t++) {
             if (isIn(meant, t)) {
-                diary.add(hearing.who, house.hour, t, state);
+                diary.add(hearing.who, house.day(), house.hourOfDay(), t, state);
             }
             if (isIn(changed, t)) {
                 house.change(t, state, BY_WISH + wish);
@@ -447,6 +447,15 @@ public final class HeededWishes {
                 spent[t] += stateIn(states, t) * costOf[t];
             }
             hour++;
+        }
+
+        /** 0 to 23 for any HOUR, even one that wrapped around: places in rows are counted by it. */
+        int hourOfDay() {
+            return Math.floorMod(hour, HOURS);
+        }
+
+        int day() {
+            return Math.floorDiv(hour, HOURS);
         }
 
         int spentInAll() {
@@ -1185,13 +1194,13 @@ public final class HeededWishes {
         int size;
         int forgotten;
 
-        void add(int folk, int hour, int itsThing, int itsState) {
+        void add(int folk, int itsDay, int itsHour, int itsThing, int itsState) {
             if (size >= LOG) {
                 dropOldest();
             }
             who[size] = folk;
-            day[size] = hour / HOURS;
-            hourOfDay[size] = hour % HOURS;
+            day[size] = itsDay;
+            hourOfDay[size] = itsHour;
             thing[size] = itsThing;
             state[size] = itsState;
             size++;

@@ -39,6 +39,7 @@ public final class LanguageTest {
         methods(code);
         fields();
         nothingMadeByCalls();
+        hourWrapsAround();
         System.out.println(wrong == 0 ? "the language is kept to" : wrong + " faults");
         if (wrong != 0) {
             System.exit(1);
@@ -91,7 +92,8 @@ public final class LanguageTest {
         Matcher imports = Pattern.compile("import ([^;]+);").matcher(code);
         while (imports.find()) must(imports.group(1).equals("java.util.Arrays"), "import of " + imports.group(1));
         Matcher calls = Pattern.compile("\\b([A-Z]\\w*)\\.(\\w+)\\(").matcher(code);
-        Set<String> library = Set.of("Arrays.fill", "System.arraycopy", "Math.min", "Math.max", "Integer.bitCount", "Long.bitCount");
+        Set<String> library = Set.of("Arrays.fill", "System.arraycopy", "Math.min", "Math.max", "Math.floorMod", "Math.floorDiv", "Integer.bitCount",
+            "Long.bitCount");
         while (calls.find()) must(library.contains(calls.group(1) + "." + calls.group(2)), "listed: " + calls.group());
     }
 
@@ -140,6 +142,22 @@ public final class LanguageTest {
         x = new HeededWishes();
         by = heap.getThreadAllocatedBytes(thread) - ahead - made;
         must(by < 60000 && x.count(0) == 0, "a new object is small, but it has " + by + " bytes");
+    }
+
+    /** Rule 7: no call may throw in any state. No run of 512 calls comes there, so the HOUR is put by hand. */
+    private static void hourWrapsAround() {
+        HeededWishes x = new HeededWishes();
+        try {
+            Field house = HeededWishes.class.getDeclaredField("house");
+            house.setAccessible(true);
+            Field hour = house.get(x).getClass().getDeclaredField("hour");
+            hour.setAccessible(true);
+            hour.setInt(house.get(x), Integer.MAX_VALUE - 50);
+            for (int k = 0; k < 20; k++) allCalls(x);
+            must(x.count(8) < 0 && x.count(7) > 1 && x.habits(14, 1, -1) > 0, "the HOUR went around");
+        } catch (ReflectiveOperationException e) {
+            must(false, "there is an hour of the house: " + e);
+        }
     }
 
     private static void allCalls(HeededWishes x) {
