@@ -8,7 +8,9 @@ import java.nio.file.Files;
 import java.nio.file.Path;
 import java.util.ArrayList;
 import java.util.List;
+import java.util.Map;
 import java.util.Set;
+import java.util.TreeMap;
 import java.util.TreeSet;
 import java.util.regex.Matcher;
 import java.util.regex.Pattern;
@@ -35,8 +37,10 @@ public final class LanguageTest {
         String source = Files.readString(Path.of("src/main/java/HeededWishes.java"));
         String code = source.replaceAll("(?s)/\\*.*?\\*/", "").replaceAll("//[^\n]*", "");
         face();
+        faceAsWritten(code);
         words(code);
         methods(code);
+        depth(code);
         fields();
         nothingMadeByCalls();
         hourWrapsAround();
@@ -82,6 +86,27 @@ public final class LanguageTest {
         must(constants.equals(Set.of("BAD", "NO", "FULL", "NONE", "HARM")), "constants " + constants);
     }
 
+    /** "The public face" of the document, word for word: names, parameters and constants, and nothing public beside it. */
+    private static void faceAsWritten(String code) throws IOException {
+        Path document = Path.of("../shared/DOC.md");
+        if (!Files.isReadable(document)) {
+            System.out.println("without " + document + " the face is not looked up");
+            return;
+        }
+        Matcher block = Pattern.compile("(?s)```java\n(.*?)```").matcher(Files.readString(document));
+        must(block.find(), "the document has a face");
+        List<String> due = publicLines(block.group(1));
+        must(due.size() == 34, "a class, constants, a constructor and 31 methods, but " + due.size());
+        must(publicLines(code).equals(due), "the face as it is written: " + publicLines(code));
+    }
+
+    private static List<String> publicLines(String text) {
+        List<String> lines = new ArrayList<>();
+        Matcher m = Pattern.compile("(?m)^\\s*public ([^;{]*)").matcher(text);
+        while (m.find()) lines.add(m.group(1).trim());
+        return lines;
+    }
+
     private static void words(String code) {
         for (String word : List.of("throw", "try", "catch", "synchronized", "assert", "package", "protected", "native")) {
             must(!Pattern.compile("\\b" + word + "\\b").matcher(code).find(), "without " + word);
@@ -109,6 +134,36 @@ public final class LanguageTest {
             must(end - k <= 60, "short: " + lines[k].trim());
             must(m.group(2).split(",").length <= 7, "seven parameters: " + lines[k].trim());
         }
+    }
+
+    /**
+     * No recursion, and calls eight deep at most, the library's counted. Methods are told apart by their names alone:
+     * those that share one count as one, so the true depth is no greater.
+     */
+    private static void depth(String code) {
+        Pattern head = Pattern.compile("(?m)^( +)(?!(?:if|for|while|switch|else|return)\\b)[\\w\\[\\] ]*?(\\w+)\\([^()]*\\) \\{\n");
+        Map<String, String> bodies = new TreeMap<>();
+        Matcher m = head.matcher(code);
+        while (m.find()) {
+            int end = code.indexOf("\n" + m.group(1) + "}", m.start());
+            must(end > 0, "an end of " + m.group(2));
+            bodies.merge(m.group(2), end < m.end() ? "" : code.substring(m.end(), end), (a, b) -> a + b);
+        }
+        must(bodies.keySet().containsAll(List.of("hear", "runRow", "House")), "methods are found");
+        int deepest = 0;
+        for (String name : bodies.keySet()) deepest = Math.max(deepest, depthOf(name, bodies, new ArrayList<>()));
+        must(deepest > 4 && deepest <= 8, "calls eight deep at most, but " + deepest);
+    }
+
+    private static int depthOf(String name, Map<String, String> bodies, List<String> open) {
+        must(!open.contains(name), "no recursion: " + open + " " + name);
+        if (!bodies.containsKey(name) || open.contains(name)) return 1;
+        open.add(name);
+        int below = 0;
+        Matcher calls = Pattern.compile("\\b(?!(?:if|for|while|switch|return)\\b)(\\w+)\\(").matcher(bodies.get(name));
+        while (calls.find()) below = Math.max(below, depthOf(calls.group(1), bodies, open));
+        open.remove(open.size() - 1);
+        return below + 1;
     }
 
     private static void fields() {
